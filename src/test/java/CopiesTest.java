@@ -79,6 +79,9 @@ public final class CopiesTest {
         x.key(1, 0, 1);
         x.key(2, 1, 2);
         c.due("less one as the key", x.like(a, b), 14);
+        x.key(1, 3, 4);
+        c.due("less two as the key", x.like(a, b), 13);
+        x.key(1, 3, 0);
         for (int i = 0; i < 20; i++) {
             x.choose(byName, i, 1 + i % 4);
         }

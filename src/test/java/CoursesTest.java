@@ -229,6 +229,10 @@ public final class CoursesTest {
         Check.edition(x, 2, 0, "c=3/4");
         c.due("nothing is left of what was a fault", x.lesson(2, 1, 0, 0), LetterSchool.BAD);
         c.due("nor is what it leant on", x.lesson(2, 1, 2, 2), 0);
+        Check.edition(x, 3, 0, "a=1/5:a&a|a;b=");
+        Check.edition(x, 3, 0, "b=1/5:b|b;a=1/5");
+        x.pupil(0, 3, 0);
+        c.due("nor does it lean on that", x.may(0, 0), 1);
     }
 
     private static void pupil() {

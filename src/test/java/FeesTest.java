@@ -11,6 +11,7 @@ public final class FeesTest {
         due();
         leave();
         leaveWithMuch();
+        payOnAndOn();
         move();
         moveByNames();
         c.end();
@@ -163,6 +164,19 @@ public final class FeesTest {
             x.pay(0, 99999, 0);
         }
         c.due("much", x.leave(0, 0), 39999600L * 99 / 100);
+    }
+
+    /** What is answered behind call 512 is free, but each call must answer. */
+    private static void payOnAndOn() {
+        c.about("promise 36, on and on");
+        LetterSchool x = Check.school("a=1/50", 1);
+        for (int i = 1; i <= 509; i++) {
+            c.due("pay " + i, x.pay(0, 1, 0), i);
+        }
+        for (int i = 0; i < 1000; i++) {
+            x.pay(0, 1, 0);
+        }
+        c.holds("who answers", x.who(0, 6) > 0);
     }
 
     private static void move() {
