@@ -145,9 +145,7 @@ public final class LetterSchool {
         if (pupilCount >= PUPILS) {
             return FULL;
         }
-        Pupil p = new Pupil(place, day);
-        p.follow(course, number, taught);
-        pupils[pupilCount] = p;
+        pupils[pupilCount] = new Pupil(place, day, course, number, taught);
         pupilCount++;
         return pupilCount - 1;
     }
@@ -1192,15 +1190,18 @@ public final class LetterSchool {
     private static final class Pupil {
         private final int place;
         private final int begin;
-        private int course = 0;
-        private int edition = 0;
-        private Edition taught = null;
+        private int course;
+        private int edition;
+        private Edition taught;
         private int habit = 5;
         private int left = NONE;
 
-        Pupil(int place, int begin) {
+        Pupil(int place, int begin, int course, int edition, Edition taught) {
             this.place = place;
             this.begin = begin;
+            this.course = course;
+            this.edition = edition;
+            this.taught = taught;
         }
 
         void follow(int newCourse, int newEdition, Edition newTaught) {

@@ -55,6 +55,7 @@ public final class CoursesTest {
         LetterSchool x = new LetterSchool();
         c.due("n 0", x.type('a', 0), LetterSchool.BAD);
         c.due("n 9", x.type('a', 9), LetterSchool.BAD);
+        c.due("n 9, all bytes good", x.type(Check.word("aaaaaaaa"), 9), LetterSchool.BAD);
         c.due("n least", x.type('a', MIN), LetterSchool.BAD);
         c.due("n greatest", x.type('a', MAX), LetterSchool.BAD);
         c.due("byte 31", x.type(31, 1), LetterSchool.BAD);
