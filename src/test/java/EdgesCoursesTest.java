@@ -25,6 +25,7 @@ public final class EdgesCoursesTest {
         mayNoneMarked();
         mayNoLess();
         mayAbove();
+        mayByCases();
         mayNotPassed();
         leanBad();
         leanCounts();
@@ -66,7 +67,8 @@ public final class EdgesCoursesTest {
         Run r = editions(c.edge(5, "Of a LESSON (0 .. 7: a .. h) of an EDITION"));
         r.goes(0, 0, 3, "lesson", 0, 0, 7, 0).goes(1, 0, 5, "lesson", 0, 0, 7, 0).goes(3, 0, 2, "lesson", 0, 0, 7, 0);
         r = c.edge(5, "Of a LESSON (0 .. 7: a .. h) of an EDITION");
-        r.edition(0, 0, 0, "a=1/11;b=2/12;c=3/13;d=4/14;e=5/15;f=6/16;g=7/17;h=8/18").goes(2, 0, 7, "lesson", 0, 0, 0, 0);
+        r.edition(0, 0, 0, "a=1/11;b=2/12;c=3/13;d=4/14;e=5/15;f=6/16;g=7/17;h=8/18")
+            .goes(2, 0, 7, "lesson", 0, 0, 0, 0);
         for (int i = 0; i < 8; i++) {
             r.asked(i + 1, "lesson", 0, 0, i, 0).asked(i + 11, "lesson", 0, 0, i, 1).asked(0, "lesson", 0, 0, i, 2);
         }
@@ -79,7 +81,8 @@ public final class EdgesCoursesTest {
             r.asked(i == 3 ? 1 : Edge.BAD, "lesson", 0, 0, i, 0);
             r.asked(i == 0 ? 1 : i == 7 ? 2 : Edge.BAD, "lesson", 0, 1, i, 0);
         }
-        r.asked(Edge.BAD, "lesson", 0, 0, 35, 0).asked(Edge.BAD, "lesson", 0, 2, 0, 0).asked(Edge.BAD, "lesson", 1, 0, 3, 0);
+        r.asked(Edge.BAD, "lesson", 0, 0, 35, 0).asked(Edge.BAD, "lesson", 0, 2, 0, 0)
+            .asked(Edge.BAD, "lesson", 1, 0, 3, 0);
     }
 
     private static void lessonLeans() {
@@ -110,7 +113,8 @@ public final class EdgesCoursesTest {
     private static void pupilBad() {
         Run r = c.edge(6, "A PUPIL: the number. BAD");
         r.edition(0, 0, 0, "a=1/50").goes(0, 0, 5, "pupil", 0, 0, 0).goes(2, 0, 3999, "pupil", 5, 0, 0);
-        r.refused(Edge.BAD, "pupil", 0, 4, 0).refused(Edge.BAD, "pupil", 0, -1, 0).due(0, "pupil", 0, 0, 0).due(1, "pupil", 5, 0, 3999);
+        r.refused(Edge.BAD, "pupil", 0, 4, 0).refused(Edge.BAD, "pupil", 0, -1, 0).due(0, "pupil", 0, 0, 0)
+            .due(1, "pupil", 5, 0, 3999);
         r.asked(2, "count", 0);
     }
 
@@ -124,7 +128,8 @@ public final class EdgesCoursesTest {
 
     private static void pupilLatest() {
         Run r = c.edge(6, "begin a COURSE on a DAY, by the EDITION that is in force then (the latest)");
-        r.edition(0, 0, 10, "a=1/50").edition(1, 0, 20, "b=1/50").edition(2, 0, 20, "c=1/50").edition(3, 0, 30, "d=1/50");
+        r.edition(0, 0, 10, "a=1/50").edition(1, 0, 20, "b=1/50").edition(2, 0, 20, "c=1/50")
+            .edition(3, 0, 30, "d=1/50");
         int[][] days = {{10, 0}, {19, 0}, {20, 2}, {29, 2}, {30, 3}, {3999, 3}};
         for (int i = 0; i < days.length; i++) {
             r.due(i, "pupil", 0, 0, days[i][0]).asked(days[i][1], "who", i, 2).asked(1 << days[i][1], "may", i, 0);
@@ -145,12 +150,15 @@ public final class EdgesCoursesTest {
     private static void pupilOrder() {
         Run r = c.edge(6, "Refusals are answers, of several the first that a call names");
         r.edition(0, 0, 50, "a=1/50");
-        r.refused(Edge.BAD, "pupil", 6, 0, 49).refused(Edge.BAD, "pupil", 0, 4, 49).refused(Edge.BAD, "pupil", 0, 0, -1);
+        r.refused(Edge.BAD, "pupil", 6, 0, 49).refused(Edge.BAD, "pupil", 0, 4, 49)
+            .refused(Edge.BAD, "pupil", 0, 0, -1);
         for (int i = 0; i < 12; i++) {
             r.due(i, "pupil", 0, 0, 50);
         }
-        r.refused(Edge.NOT, "pupil", 0, 0, 49).refused(Edge.NOT, "pupil", 0, 1, 50).refused(Edge.FULL, "pupil", 0, 0, 50);
-        r.refused(Edge.BAD, "pupil", -1, 0, 50).refused(Edge.BAD, "pupil", 0, -1, 50).refused(Edge.BAD, "pupil", 0, 0, 4000);
+        r.refused(Edge.NOT, "pupil", 0, 0, 49).refused(Edge.NOT, "pupil", 0, 1, 50)
+            .refused(Edge.FULL, "pupil", 0, 0, 50);
+        r.refused(Edge.BAD, "pupil", -1, 0, 50).refused(Edge.BAD, "pupil", 0, -1, 50)
+            .refused(Edge.BAD, "pupil", 0, 0, 4000);
     }
 
     private static void who() {
@@ -172,7 +180,8 @@ public final class EdgesCoursesTest {
     private static void habit() {
         Run r = c.edge(8, "the pupil's HABIT (0 .. 60 DAYS, 5 at first)");
         r.school(2, "a=1/50").tutors(1, 9).goes(1, 0, 60, "habit", 1, 0).asked(5, "who", 1, 4);
-        r.due(5, "habit", 1, 60).due(60, "habit", 1, 0).due(0, "habit", 1, 60).asked(60, "who", 1, 4).asked(5, "who", 0, 4);
+        r.due(5, "habit", 1, 60).due(60, "habit", 1, 0).due(0, "habit", 1, 60).asked(60, "who", 1, 4)
+            .asked(5, "who", 0, 4);
         r = c.edge(8, "HABIT: what it was. BAD.");
         r.refused(Edge.BAD, "habit", 0, 5).school(12, "a=1/50").goes(0, 0, 11, "habit", 0, 9);
         r.refused(Edge.BAD, "habit", 0, 61).refused(Edge.BAD, "habit", 0, -1).asked(5, "who", 0, 4);
@@ -221,7 +230,8 @@ public final class EdgesCoursesTest {
         r.marked(0, 0, 0, 0, 65);
         r.marked(0, 2, 0, 0, 99);
         r.marked(1, 0, 0, 0, 98);
-        r.asked(70, "best", 0, 0, 3999).asked(70, "best", 0, 1, 3999).asked(99, "best", 0, 2, 3999).asked(98, "best", 1, 1, 3999);
+        r.asked(70, "best", 0, 0, 3999).asked(70, "best", 0, 1, 3999).asked(99, "best", 0, 2, 3999)
+            .asked(98, "best", 1, 1, 3999);
         r.due(97, "second", 0, 1, 97, 97, 97).asked(70, "best", 0, 0, 3999);
         r.marked(0, 0, 0, 0, 100);
         r.asked(100, "best", 0, 1, 3999);
@@ -281,6 +291,41 @@ public final class EdgesCoursesTest {
         r.asked(30, "may", 0, 0);
     }
 
+    /** Pupil p of eight has passed a, b and c as the bits of p tell. */
+    private static Run eight(Run r, String text) {
+        r.school(8, text).tutors(1, 9);
+        for (int pupil = 0; pupil < 8; pupil++) {
+            for (int lesson = 0; lesson < 3; lesson++) {
+                if ((pupil >> lesson & 1) == 1) {
+                    r.marked(pupil, lesson, 0, 0, 50);
+                }
+            }
+        }
+        return r;
+    }
+
+    private static int bits(boolean... held) {
+        int bits = 0;
+        for (int i = 0; i < held.length; i++) {
+            bits |= held[i] ? 1 << i : 0;
+        }
+        return bits;
+    }
+
+    private static void mayByCases() {
+        Run r = eight(c.edge(10, "CASES with | between; CASE: CLAIMS with & between; CLAIM: perhaps !, then a LESSON (it is PASSED)"),
+            "a=1/50;b=2/50;c=3/50;d=4/50:a&b|c;e=5/50:a|b&c;f=6/50:(a|b)&c;g=7/50:!(a&b)|!c;h=8/50:((((((a|b))))))&!c");
+        Run s = eight(c.edge(10, "or CASES in ( ) (6 open at once at most)"),
+            "a=1/50;b=2/50;c=3/50;d=4/50:a|b|c;e=5/50:a&b&c;f=6/50:!a&b|!b&c;g=7/50:a&(b|c&(a|b));h=8/50:!(!(!(!(!(!(a&b))))))&c|b");
+        for (int pupil = 0; pupil < 8; pupil++) {
+            boolean a = (pupil & 1) > 0;
+            boolean b = (pupil & 2) > 0;
+            boolean d = (pupil & 4) > 0;
+            r.asked(bits(!a, !b, !d, a && b || d, a || b && d, (a || b) && d, !(a && b) || !d, (a || b) && !d), "may", pupil, 0);
+            s.asked(bits(!a, !b, !d, a || b || d, a && b && d, !a && b || !b && d, a && (b || d), b), "may", pupil, 0);
+        }
+    }
+
     private static void mayNotPassed() {
         Run r = c.edge(10, "MAY be had is a LESSON that is not PASSED, if what it LEANS on holds.");
         r.school(1, "a=1/50;b=2/50:b;c=3/50:!c;d=1/90").tutors(1, 9).asked(13, "may", 0, 0);
@@ -317,6 +362,9 @@ public final class EdgesCoursesTest {
         for (int i = 0; i < 8; i++) {
             r.asked(i, "lean", 0, i);
         }
+        r = c.edge(11, "How many LESSONS that MAY be had, one behind the other");
+        r.school(1, "a=1/1;b=2/1;c=3/1;d=4/1;e=5/1;f=6/1;g=7/1;h=8/1:a&b&c&d&e&f&g").asked(8, "lean", 0, 7)
+            .asked(1, "lean", 0, 6);
         r = c.edge(11, "it takes at least till a LESSON is PASSED (itself counted)");
         r.school(1, "a=1/1;b=2/1:a;c=3/1:b;d=4/1:c|e;e=5/1:a;f=6/1:(a&b&c&d&e)|(g&e);g=7/1:e");
         int[] want = {1, 2, 3, 3, 2, 4, 3};
@@ -355,7 +403,8 @@ public final class EdgesCoursesTest {
 
     private static void leanHundred() {
         Run r = c.edge(11, "each with 100 marks for its NAME");
-        r.school(1, "a=1/100;b=2/50:a>99;c=3/50:a>100;d=1/100:d;e=4/50:d;f=1/0:!a;g=5/50:!a>99;h=6/50:g&a").tutors(1, 9);
+        r.school(1, "a=1/100;b=2/50:a>99;c=3/50:a>100;d=1/100:d;e=4/50:d;f=1/0:!a;g=5/50:!a>99;h=6/50:g&a")
+            .tutors(1, 9);
         int[] want = {1, 2, Edge.NONE, 1, 2, 1, 1, 3};
         for (int i = 0; i < 8; i++) {
             r.asked(want[i], "lean", 0, i);

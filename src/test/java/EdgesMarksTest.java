@@ -60,7 +60,8 @@ public final class EdgesMarksTest {
 
     private static void giveCast() {
         Run r = ofAllKinds(c.edge(15, "CAST: LESSONS, LOST ones"));
-        r.refused(Edge.CAST, "give", 0, 0, 3999).refused(Edge.CAST, "give", 1, 0, 3999).refused(Edge.CAST, "give", 0, 0, 0);
+        r.refused(Edge.CAST, "give", 0, 0, 3999).refused(Edge.CAST, "give", 1, 0, 3999)
+            .refused(Edge.CAST, "give", 0, 0, 0);
     }
 
     private static void giveKinds() {
@@ -75,11 +76,13 @@ public final class EdgesMarksTest {
 
     private static void giveComes() {
         Run r = ready(c.edge(15, "GIVEN to a TUTOR is an ANSWER that has come, on that DAY or later"));
-        r.due(0, "send", 0, 0, 10).due(16, "answer", 0, 13).refused(Edge.NOT, "give", 0, 0, 15).refused(Edge.NOT, "give", 0, 0, 0);
+        r.due(0, "send", 0, 0, 10).due(16, "answer", 0, 13).refused(Edge.NOT, "give", 0, 0, 15)
+            .refused(Edge.NOT, "give", 0, 0, 0);
         r.due(1, "give", 0, 0, 16).due(1, "send", 0, 0, 10).due(16, "answer", 1, 13).due(2, "give", 1, 0, 17);
         r.due(2, "send", 0, 0, 10).due(16, "answer", 2, 13).due(3, "give", 2, 0, 3999);
         r.due(3, "send", 0, 0, 10).due(4000, "answer", 3, 3997).refused(Edge.NOT, "give", 3, 0, 3999);
-        r.due(4, "send", 0, 0, 10).due(3999, "answer", 4, 3996).refused(Edge.NOT, "give", 4, 0, 3998).due(4, "give", 4, 0, 3999);
+        r.due(4, "send", 0, 0, 10).due(3999, "answer", 4, 3996).refused(Edge.NOT, "give", 4, 0, 3998)
+            .due(4, "give", 4, 0, 3999);
         r.due(20, "again", 1, 17).due(23, "answer", 1, 20).refused(Edge.NOT, "give", 1, 0, 22).due(4, "give", 1, 0, 23);
     }
 
@@ -111,7 +114,8 @@ public final class EdgesMarksTest {
             r.due(lesson % 2 + 1, "give", lesson, lesson / 2, 6);
         }
         r.answered(0, 0, 0);
-        r.due(4, "tutor", 0, 9).refused(Edge.NOT, "give", 8, 4, 6).due(5, "tutor", 14, 9).refused(Edge.NOT, "give", 8, 5, 6);
+        r.due(4, "tutor", 0, 9).refused(Edge.NOT, "give", 8, 4, 6).due(5, "tutor", 14, 9)
+            .refused(Edge.NOT, "give", 8, 5, 6);
     }
 
     private static void giveFull() {
@@ -129,7 +133,8 @@ public final class EdgesMarksTest {
         for (int i = 0; i < 11; i++) {
             r.given(0, 0, 0, 1);
         }
-        r.due(12, "give", r.answered(0, 0, 0), 1, 6).refused(Edge.FULL, "give", r.answered(0, 0, 0), 1, 6).due(1, "give", 12, 0, 6);
+        r.due(12, "give", r.answered(0, 0, 0), 1, 6).refused(Edge.FULL, "give", r.answered(0, 0, 0), 1, 6)
+            .due(1, "give", 12, 0, 6);
     }
 
     private static void giveOrder() {
@@ -143,7 +148,8 @@ public final class EdgesMarksTest {
         r.refused(Edge.CAST, "give", 0, 2, 0).refused(Edge.NOT, "give", 3, 2, 6).refused(Edge.NOT, "give", 2, 2, 5);
         int other = r.answered(0, 1, 0);
         int kin = r.answered(1, 0, 0);
-        r.refused(Edge.NOT, "give", other, 2, 6).refused(Edge.NOT, "give", kin, 2, 6).refused(Edge.FULL, "give", 2, 2, 6);
+        r.refused(Edge.NOT, "give", other, 2, 6).refused(Edge.NOT, "give", kin, 2, 6)
+            .refused(Edge.FULL, "give", 2, 2, 6);
     }
 
     // ---- promise 16
@@ -168,19 +174,23 @@ public final class EdgesMarksTest {
 
     private static void markBad() {
         Run r = ofAllKinds(c.edge(16, "It is MARKED: marks. BAD"));
-        r.goes(0, 0, 5, "mark", 3, 1, 1, 1, 6).goes(4, 0, 3999, "mark", 3, 1, 1, 1, 6).refused(Edge.BAD, "mark", 6, 1, 1, 1, 6);
-        r.refused(Edge.BAD, "mark", 0, 101, 1, 1, 6).refused(Edge.BAD, "mark", 1, 1, 1, 1, 4000).refused(Edge.BAD, "mark", 5, 1, -1, 1, 6);
+        r.goes(0, 0, 5, "mark", 3, 1, 1, 1, 6).goes(4, 0, 3999, "mark", 3, 1, 1, 1, 6)
+            .refused(Edge.BAD, "mark", 6, 1, 1, 1, 6);
+        r.refused(Edge.BAD, "mark", 0, 101, 1, 1, 6).refused(Edge.BAD, "mark", 1, 1, 1, 1, 4000)
+            .refused(Edge.BAD, "mark", 5, 1, -1, 1, 6);
         c.edge(16, "It is MARKED: marks. BAD").refused(Edge.BAD, "mark", 0, 1, 1, 1, 6);
     }
 
     private static void markCast() {
         Run r = ofAllKinds(c.edge(16, "CAST: LESSONS, LOST ones"));
-        r.refused(Edge.CAST, "mark", 0, 1, 1, 1, 3999).refused(Edge.CAST, "mark", 1, 1, 1, 1, 3999).refused(Edge.CAST, "mark", 0, 1, 1, 1, 0);
+        r.refused(Edge.CAST, "mark", 0, 1, 1, 1, 3999).refused(Edge.CAST, "mark", 1, 1, 1, 1, 3999)
+            .refused(Edge.CAST, "mark", 0, 1, 1, 1, 0);
     }
 
     private static void markKinds() {
         Run r = ofAllKinds(c.edge(16, "NOT: it is MARKED, AGAIN, not GIVEN, or GIVEN later"));
-        r.refused(Edge.NOT, "mark", 2, 1, 1, 1, 3999).refused(Edge.NOT, "mark", 4, 1, 1, 1, 3999).refused(Edge.NOT, "mark", 5, 1, 1, 1, 3999);
+        r.refused(Edge.NOT, "mark", 2, 1, 1, 1, 3999).refused(Edge.NOT, "mark", 4, 1, 1, 1, 3999)
+            .refused(Edge.NOT, "mark", 5, 1, 1, 1, 3999);
         r.due(12, "answer", 4, 9).refused(Edge.NOT, "mark", 4, 1, 1, 1, 3999);
     }
 
@@ -217,7 +227,8 @@ public final class EdgesMarksTest {
     private static void againTwice() {
         Run r = ready(c.edge(17, "AGAIN (to be ANSWERED once more; at most twice for a THING)"));
         r.given(0, 0, 0, 0);
-        r.asked(0, "thing", 0, 7).due(9, "again", 0, 6).asked(1, "thing", 0, 7).due(12, "answer", 0, 9).due(1, "give", 0, 0, 12);
+        r.asked(0, "thing", 0, 7).due(9, "again", 0, 6).asked(1, "thing", 0, 7).due(12, "answer", 0, 9)
+            .due(1, "give", 0, 0, 12);
         r.due(15, "again", 0, 12).asked(2, "thing", 0, 7).due(18, "answer", 0, 15).due(1, "give", 0, 1, 18);
         r.refused(Edge.NOT, "again", 0, 18).refused(Edge.NOT, "again", 0, 3999).asked(1, "load", 1);
         r.due(40, "mark", 0, 40, 40, 40, 18).asked(2, "thing", 0, 7).asked(21, "took", 0);
@@ -232,7 +243,8 @@ public final class EdgesMarksTest {
         r.asked(Edge.NONE, "thing", 0, 6).asked(3, "thing", 0, 0).asked(0, "load", 1);
         r.due(1, "post", 0, 3, 0).given(0, 0, 0, 1);
         r.due(1, "post", 0, 3, 2).due(2, "send", 0, 0, 0).due(Edge.NONE, "again", 1, 7);
-        r.asked(4, "thing", 1, 0).asked(7, "thing", 1, 4).asked(Edge.NONE, "thing", 1, 5).asked(Edge.NONE, "thing", 1, 6);
+        r.asked(4, "thing", 1, 0).asked(7, "thing", 1, 4).asked(Edge.NONE, "thing", 1, 5)
+            .asked(Edge.NONE, "thing", 1, 6);
         r.asked(0, "load", 1).refused(Edge.CAST, "answer", 1, 99);
     }
 
@@ -244,8 +256,10 @@ public final class EdgesMarksTest {
         for (int part = 2; part <= 4; part++) {
             r.goes(part, 0, 100, "second", 5, 1, 50, 50, 50);
         }
-        r.refused(Edge.BAD, "second", 0, 2, 1, 1, 1).refused(Edge.BAD, "second", 6, 1, 1, 1, 1).refused(Edge.BAD, "second", 5, 0, 101, 1, 1);
-        r.tutors(4, 9).goes(1, 0, 5, "second", 5, 1, 1, 1, 1).due(100, "second", 5, 5, 100, 100, 100).asked(100, "marks", 5, 2);
+        r.refused(Edge.BAD, "second", 0, 2, 1, 1, 1).refused(Edge.BAD, "second", 6, 1, 1, 1, 1)
+            .refused(Edge.BAD, "second", 5, 0, 101, 1, 1);
+        r.tutors(4, 9).goes(1, 0, 5, "second", 5, 1, 1, 1, 1).due(100, "second", 5, 5, 100, 100, 100)
+            .asked(100, "marks", 5, 2);
         r.due(0, "second", r.marked(0, 0, 0, 1, 30), 0, 0, 0, 3).asked(0, "marks", 6, 2);
     }
 
@@ -279,7 +293,8 @@ public final class EdgesMarksTest {
         for (int i = 0; i < 80; i++) {
             r.does("send", i % 2, i % 2, i);
         }
-        r.goes(0, 0, 79, "thing", 0, 0).asked(1, "thing", 79, 1).asked(12, "thing", 79, 2).asked(1, "thing", 79, 3).asked(79, "thing", 79, 4);
+        r.goes(0, 0, 79, "thing", 0, 0).asked(1, "thing", 79, 1).asked(12, "thing", 79, 2).asked(1, "thing", 79, 3)
+            .asked(79, "thing", 79, 4);
     }
 
     private static void thingNones() {
@@ -296,7 +311,8 @@ public final class EdgesMarksTest {
     private static void marks() {
         Run r = ofAllKinds(c.edge(20, "Of a MARKED one: 0 marks, 1 the DAY, 2 marks by the second one (NONE), 3 the DAY on which the pupil knows."));
         r.goes(0, 0, 5, "marks", 5, 0).goes(1, 0, 3, "marks", 5, 0).asked(40, "marks", 5, 0).asked(6, "marks", 5, 1);
-        r.asked(Edge.NONE, "marks", 5, 2).due(0, "second", 5, 1, 0, 0, 0).asked(0, "marks", 5, 2).asked(9, "marks", 5, 3);
+        r.asked(Edge.NONE, "marks", 5, 2).due(0, "second", 5, 1, 0, 0, 0).asked(0, "marks", 5, 2)
+            .asked(9, "marks", 5, 3);
         c.edge(20, "BAD; CAST.").asked(Edge.BAD, "marks", 0, 0);
     }
 

@@ -48,7 +48,8 @@ public final class EdgesPostTest {
         Run r = ready(c.edge(12, "(n 2 .. 9; 0: none, at first)"));
         r.goes(2, 2, 9, "post", 0, 3, 2).refused(Edge.BAD, "post", 0, 3, 1).refused(Edge.BAD, "post", 0, 3, -1);
         r.refused(Edge.BAD, "post", 0, 3, -2).due(1, "post", 0, 3, 0);
-        r.due(1, "post", 0, 3, 2).due(0, "send", 0, 0, 0).refused(Edge.BAD, "post", 0, 3, 1).refused(Edge.BAD, "post", 0, 3, 10);
+        r.due(1, "post", 0, 3, 2).due(0, "send", 0, 0, 0).refused(Edge.BAD, "post", 0, 3, 1)
+            .refused(Edge.BAD, "post", 0, 3, 10);
         r.refused(Edge.BAD, "post", 0, 0, 9).refused(Edge.BAD, "post", 0, 61, 9).refused(Edge.BAD, "post", 6, 9, 9);
         r.due(1, "send", 0, 0, 0).asked(4, "thing", 1, 0);
     }
@@ -110,7 +111,8 @@ public final class EdgesPostTest {
         Run r = c.edge(13, "A LESSON is SENT: the number of the THING.");
         r.refused(Edge.BAD, "send", 0, 0, 0).school(12, "a=1/1;b=1/1;c=1/1;d=1/1;e=1/1;f=1/1;g=1/1;h=1/1");
         r.goes(0, 0, 11, "send", 0, 0, 0).goes(1, 0, 7, "send", 0, 0, 0).goes(2, 0, 3999, "send", 0, 0, 0);
-        r.due(0, "send", 11, 7, 5).due(1, "send", 0, 0, 0).asked(11, "thing", 0, 1).asked(7, "thing", 0, 3).asked(5, "thing", 0, 4);
+        r.due(0, "send", 11, 7, 5).due(1, "send", 0, 0, 0).asked(11, "thing", 0, 1).asked(7, "thing", 0, 3)
+            .asked(5, "thing", 0, 4);
     }
 
     private static void sendNoSuchLesson() {
@@ -144,7 +146,8 @@ public final class EdgesPostTest {
 
     private static void sendLeft() {
         Run r = ready(c.edge(13, "LEFT is a pupil from a DAY on: nothing is SENT, ANSWERED, paid on that DAY and later ones."));
-        r.due(0, "leave", 0, 10).due(0, "send", 0, 0, 9).refused(Edge.NOT, "send", 0, 0, 10).refused(Edge.NOT, "send", 0, 0, 11);
+        r.due(0, "leave", 0, 10).due(0, "send", 0, 0, 9).refused(Edge.NOT, "send", 0, 0, 10)
+            .refused(Edge.NOT, "send", 0, 0, 11);
         r.refused(Edge.NOT, "send", 0, 0, 3999).due(1, "send", 1, 0, 10).due(2, "send", 0, 0, 0);
         r = ready(c.edge(13, "LEFT is a pupil from a DAY on: nothing is SENT, ANSWERED, paid on that DAY and later ones."));
         r.due(0, "leave", 0, 0).refused(Edge.NOT, "send", 0, 0, 0).due(0, "leave", 1, 3999).due(0, "send", 1, 0, 3998);
@@ -196,7 +199,8 @@ public final class EdgesPostTest {
         Run r = ready(c.edge(14, "CAST: LOST"));
         int lost = r.lost(0, 0, 0);
         r.refused(Edge.CAST, "answer", lost, 3999).refused(Edge.CAST, "answer", lost, 0);
-        r.due(1, "post", 0, 3, 2).due(2, "send", 0, 0, 0).due(Edge.NONE, "answer", 2, 3).refused(Edge.CAST, "answer", 2, 99);
+        r.due(1, "post", 0, 3, 2).due(2, "send", 0, 0, 0).due(Edge.NONE, "answer", 2, 3)
+            .refused(Edge.CAST, "answer", 2, 99);
     }
 
     private static void answerKinds() {
@@ -237,7 +241,8 @@ public final class EdgesPostTest {
         int lost = r.lost(0, 0, 0);
         int thing = r.answered(0, 0, 0);
         r.due(0, "leave", 0, 10).refused(Edge.BAD, "answer", lost, 4000).refused(Edge.BAD, "answer", lost, -1);
-        r.refused(Edge.CAST, "answer", lost, 10).refused(Edge.BAD, "answer", thing, 4000).refused(Edge.NOT, "answer", thing, 10);
+        r.refused(Edge.CAST, "answer", lost, 10).refused(Edge.BAD, "answer", thing, 4000)
+            .refused(Edge.NOT, "answer", thing, 10);
         r.refused(Edge.BAD, "answer", 3, 10);
     }
 }

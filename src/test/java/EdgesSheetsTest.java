@@ -49,15 +49,19 @@ public final class EdgesSheetsTest {
         Run r = ready(c.edge(40, "sheets 0 .. 3: nothing (at first), or a row of a LANE: 0 bytes, 1 shorts, 2 ints, of 0 to 30 items"));
         r.goes(0, 0, 3, "sheet", 0, 0, 5).goes(1, 0, 2, "sheet", 3, 0, 5);
         r.due(0, "sheet", 0, 0, 0).due(30, "sheet", 3, 2, 30).due(1, "sheet", 1, 1, 1);
-        r.goes(0, 0, 3, "sheet", 0, 0, 5).goes(1, 0, 2, "sheet", 3, 0, 5).due(0, "drop", 0).due(30, "drop", 3).due(1, "drop", 1);
+        r.goes(0, 0, 3, "sheet", 0, 0, 5).goes(1, 0, 2, "sheet", 3, 0, 5).due(0, "drop", 0).due(30, "drop", 3)
+            .due(1, "drop", 1);
     }
 
     private static void sheetSize() {
         Run r = ready(c.edge(40, "A SHEET holds a new row of a LANE: n. BAD: also n above 30; SIZE: n below 0."));
-        r.refused(Edge.BAD, "sheet", 0, 0, 31).refused(Edge.BAD, "sheet", 0, 0, Edge.MAX).refused(Edge.SIZE, "sheet", 0, 0, -1);
+        r.refused(Edge.BAD, "sheet", 0, 0, 31).refused(Edge.BAD, "sheet", 0, 0, Edge.MAX)
+            .refused(Edge.SIZE, "sheet", 0, 0, -1);
         r.refused(Edge.SIZE, "sheet", 0, 0, Edge.MIN).due(30, "sheet", 0, 0, 30).due(1, "item", 0, 0, 29, 4);
-        r.refused(Edge.SIZE, "sheet", 0, 0, -1).refused(Edge.SIZE, "sheet", 0, 2, Edge.MIN).refused(Edge.BAD, "sheet", 0, 0, 31).refused(Edge.BAD, "sheet", 0, 1, 31);
-        r.refused(Edge.BAD, "sheet", 4, 0, -1).refused(Edge.BAD, "sheet", 0, 3, -1).refused(Edge.BAD, "sheet", -1, 0, -1).refused(Edge.BAD, "sheet", 0, -1, -1);
+        r.refused(Edge.SIZE, "sheet", 0, 0, -1).refused(Edge.SIZE, "sheet", 0, 2, Edge.MIN)
+            .refused(Edge.BAD, "sheet", 0, 0, 31).refused(Edge.BAD, "sheet", 0, 1, 31);
+        r.refused(Edge.BAD, "sheet", 4, 0, -1).refused(Edge.BAD, "sheet", 0, 3, -1)
+            .refused(Edge.BAD, "sheet", -1, 0, -1).refused(Edge.BAD, "sheet", 0, -1, -1);
         r.due(0, "sheet", 0, 2, 0).due(0, "drop", 0);
     }
 
@@ -67,9 +71,12 @@ public final class EdgesSheetsTest {
         for (int i = 0; i < 20; i++) {
             r.due(1, "item", 0, 1, i, 4);
         }
-        r.due(20, "sheet", 0, 1, 20).due(20, "choices", 0, 0, 1, 0, 20).due(0, "choose", 0, 0, 0).due(0, "choose", 0, 19, 0);
-        r.due(1, "item", 0, 1, 0, 3).due(1, "sheet", 0, 2, 1).refused(Edge.CAST, "item", 0, 1, 0, 3).refused(Edge.INDEX, "item", 0, 2, 1, 3);
-        r.due(1, "choices", 0, 0, 2, 0, 1).due(0, "choose", 0, 0, 0).due(30, "sheet", 0, 2, 30).due(1, "choices", 0, 0, 2, 29, 1).due(0, "choose", 0, 0, 0);
+        r.due(20, "sheet", 0, 1, 20).due(20, "choices", 0, 0, 1, 0, 20).due(0, "choose", 0, 0, 0)
+            .due(0, "choose", 0, 19, 0);
+        r.due(1, "item", 0, 1, 0, 3).due(1, "sheet", 0, 2, 1).refused(Edge.CAST, "item", 0, 1, 0, 3)
+            .refused(Edge.INDEX, "item", 0, 2, 1, 3);
+        r.due(1, "choices", 0, 0, 2, 0, 1).due(0, "choose", 0, 0, 0).due(30, "sheet", 0, 2, 30)
+            .due(1, "choices", 0, 0, 2, 29, 1).due(0, "choose", 0, 0, 0);
     }
 
     private static void dropBad() {
@@ -83,22 +90,27 @@ public final class EdgesSheetsTest {
     private static void dropNull() {
         Run r = ready(c.edge(41, "BAD; NULL."));
         r.refused(Edge.NULL, "drop", 0).due(0, "sheet", 0, 0, 0).due(0, "drop", 0).refused(Edge.NULL, "drop", 0);
-        r.due(3, "sheet", 0, 2, 3).due(1, "item", 0, 2, 0, 4).due(3, "drop", 0).refused(Edge.NULL, "drop", 0).refused(Edge.NULL, "item", 0, 2, 0, 4);
-        r.refused(Edge.NULL, "choices", 0, 0, 2, 0, 1).due(3, "sheet", 0, 2, 3).due(1, "choices", 0, 0, 2, 0, 1).due(0, "choose", 0, 0, 0);
+        r.due(3, "sheet", 0, 2, 3).due(1, "item", 0, 2, 0, 4).due(3, "drop", 0).refused(Edge.NULL, "drop", 0)
+            .refused(Edge.NULL, "item", 0, 2, 0, 4);
+        r.refused(Edge.NULL, "choices", 0, 0, 2, 0, 1).due(3, "sheet", 0, 2, 3).due(1, "choices", 0, 0, 2, 0, 1)
+            .due(0, "choose", 0, 0, 0);
     }
 
     // ---- promise 42
 
     private static void itemBad() {
         Run r = ready(c.edge(42, "BAD; NULL; CAST; INDEX."));
-        r.due(2, "sheet", 0, 0, 2).due(2, "sheet", 3, 0, 2).goes(0, 0, 3, "item", 0, 0, 0, 1).goes(1, 0, 2, "item", 3, 0, 0, 1);
-        r.refused(Edge.BAD, "item", 4, 0, 2, 1).refused(Edge.BAD, "item", 1, 3, 0, 1).refused(Edge.BAD, "item", 0, -1, 2, 1).refused(Edge.BAD, "item", 0, 3, 0, 1);
+        r.due(2, "sheet", 0, 0, 2).due(2, "sheet", 3, 0, 2).goes(0, 0, 3, "item", 0, 0, 0, 1)
+            .goes(1, 0, 2, "item", 3, 0, 0, 1);
+        r.refused(Edge.BAD, "item", 4, 0, 2, 1).refused(Edge.BAD, "item", 1, 3, 0, 1)
+            .refused(Edge.BAD, "item", 0, -1, 2, 1).refused(Edge.BAD, "item", 0, 3, 0, 1);
     }
 
     private static void itemNull() {
         Run r = ready(c.edge(42, "(NULL, CAST, INDEX, SIZE in this order, behind BAD)"));
         r.refused(Edge.NULL, "item", 0, 0, 0, 1).refused(Edge.NULL, "item", 0, 2, -1, 1).due(0, "sheet", 0, 1, 0);
-        r.refused(Edge.CAST, "item", 0, 0, 0, 1).refused(Edge.CAST, "item", 0, 2, -1, 1).refused(Edge.INDEX, "item", 0, 1, 0, 1);
+        r.refused(Edge.CAST, "item", 0, 0, 0, 1).refused(Edge.CAST, "item", 0, 2, -1, 1)
+            .refused(Edge.INDEX, "item", 0, 1, 0, 1);
     }
 
     private static void itemCast() {
@@ -119,11 +131,13 @@ public final class EdgesSheetsTest {
     private static void itemIndex() {
         Run r = ready(c.edge(42, "Item i of a SHEET, taken as a row of a LANE"));
         r.due(0, "sheet", 0, 0, 0).due(1, "sheet", 1, 1, 1).due(30, "sheet", 2, 2, 30);
-        r.refused(Edge.INDEX, "item", 0, 0, 0, 1).refused(Edge.INDEX, "item", 0, 0, -1, 1).refused(Edge.INDEX, "item", 1, 1, 1, 1).due(1, "item", 1, 1, 0, 1);
+        r.refused(Edge.INDEX, "item", 0, 0, 0, 1).refused(Edge.INDEX, "item", 0, 0, -1, 1)
+            .refused(Edge.INDEX, "item", 1, 1, 1, 1).due(1, "item", 1, 1, 0, 1);
         for (int i : new int[] {-1, 30, 31, Edge.MIN, Edge.MAX}) {
             r.refused(Edge.INDEX, "item", 2, 2, i, 1);
         }
-        r.due(1, "item", 2, 2, 0, 3).due(1, "item", 2, 2, 29, 4).due(1, "choices", 0, 2, 2, 0, 1).due(3, "choose", 0, 0, 0);
+        r.due(1, "item", 2, 2, 0, 3).due(1, "item", 2, 2, 29, 4).due(1, "choices", 0, 2, 2, 0, 1)
+            .due(3, "choose", 0, 0, 0);
         r.due(1, "choices", 0, 2, 2, 29, 1).due(4, "choose", 0, 0, 0);
     }
 
@@ -135,7 +149,8 @@ public final class EdgesSheetsTest {
             for (int v : values) {
                 int kept = lane == 0 ? (byte) v : lane == 1 ? (short) v : v;
                 boolean choice = kept >= 0 && kept <= 4;
-                r.due(1, "item", lane, lane, 0, v).due(choice ? 1 : Edge.NOT, "choices", 0, lane, lane, 0, 1).due(choice ? kept : 0, "choose", 0, 0, 0);
+                r.due(1, "item", lane, lane, 0, v).due(choice ? 1 : Edge.NOT, "choices", 0, lane, lane, 0, 1)
+                    .due(choice ? kept : 0, "choose", 0, 0, 0);
             }
         }
     }
@@ -147,8 +162,10 @@ public final class EdgesSheetsTest {
         for (int sheet = 0; sheet < 4; sheet++) {
             r.due(30, "sheet", sheet, 2, 30).due(1, "item", sheet, 2, 0, sheet + 1);
         }
-        r.goes(0, 0, 2, "choices", 0, 0, 2, 0, 1).goes(1, 0, 3, "choices", 0, 0, 2, 0, 1).goes(2, 0, 2, "choices", 0, 0, 2, 0, 1);
-        r.goes(4, 0, 20, "choices", 0, 3, 2, 0, 1).due(20, "choices", 0, 3, 2, 0, 20).due(4, "choose", 0, 0, 4).due(0, "choices", 0, 2, 2, 0, 0).due(4, "choose", 0, 0, 0);
+        r.goes(0, 0, 2, "choices", 0, 0, 2, 0, 1).goes(1, 0, 3, "choices", 0, 0, 2, 0, 1)
+            .goes(2, 0, 2, "choices", 0, 0, 2, 0, 1);
+        r.goes(4, 0, 20, "choices", 0, 3, 2, 0, 1).due(20, "choices", 0, 3, 2, 0, 20).due(4, "choose", 0, 0, 4)
+            .due(0, "choices", 0, 2, 2, 0, 0).due(4, "choose", 0, 0, 0);
         c.edge(43, "BAD; CAST (the THING); NULL; CAST; INDEX; NOT: one is no choice.").refused(Edge.BAD, "choices", 0, 0, 0, 0, 0);
     }
 
@@ -166,8 +183,10 @@ public final class EdgesSheetsTest {
 
     private static void choicesNull() {
         Run r = ready(c.edge(43, "(NULL, CAST, INDEX, SIZE in this order, behind BAD)"));
-        r.refused(Edge.NULL, "choices", 0, 0, 0, 0, 0).refused(Edge.NULL, "choices", 0, 0, 2, -1, 20).refused(Edge.NULL, "choices", 0, 0, 0, Edge.MAX, 1);
-        r.due(0, "sheet", 0, 1, 0).refused(Edge.CAST, "choices", 0, 0, 0, -1, 20).refused(Edge.INDEX, "choices", 0, 0, 1, -1, 20);
+        r.refused(Edge.NULL, "choices", 0, 0, 0, 0, 0).refused(Edge.NULL, "choices", 0, 0, 2, -1, 20)
+            .refused(Edge.NULL, "choices", 0, 0, 0, Edge.MAX, 1);
+        r.due(0, "sheet", 0, 1, 0).refused(Edge.CAST, "choices", 0, 0, 0, -1, 20)
+            .refused(Edge.INDEX, "choices", 0, 0, 1, -1, 20);
     }
 
     private static void choicesLane() {
@@ -176,7 +195,8 @@ public final class EdgesSheetsTest {
             r.due(5, "sheet", sheet, sheet, 5).due(1, "item", sheet, sheet, 0, 2);
             for (int lane = 0; lane < 3; lane++) {
                 if (lane != sheet) {
-                    r.refused(Edge.CAST, "choices", 0, sheet, lane, 0, 1).refused(Edge.CAST, "choices", 0, sheet, lane, 0, 0);
+                    r.refused(Edge.CAST, "choices", 0, sheet, lane, 0, 1)
+                        .refused(Edge.CAST, "choices", 0, sheet, lane, 0, 0);
                 }
             }
             r.due(1, "choices", 0, sheet, sheet, 0, 1).due(2, "choose", 0, 0, 0);
@@ -190,22 +210,29 @@ public final class EdgesSheetsTest {
         for (int[] b : beyond) {
             r.refused(Edge.INDEX, "choices", 0, 0, 0, b[0], b[1]);
         }
-        r.due(20, "choices", 0, 0, 0, 2, 20).due(0, "choose", 0, 0, 0).due(20, "choices", 0, 0, 0, 0, 20).due(1, "choices", 0, 0, 0, 21, 1);
+        r.due(20, "choices", 0, 0, 0, 2, 20).due(0, "choose", 0, 0, 0).due(20, "choices", 0, 0, 0, 0, 20)
+            .due(1, "choices", 0, 0, 0, 21, 1);
     }
 
     private static void choicesNone() {
         Run r = ready(c.edge(43, "n choices (0 .. 20) of a SHEET"));
-        r.due(0, "choose", 0, 0, 4).due(0, "sheet", 0, 0, 0).asked(0, "choices", 0, 0, 0, 0, 0).refused(Edge.INDEX, "choices", 0, 0, 0, 0, 1);
+        r.due(0, "choose", 0, 0, 4).due(0, "sheet", 0, 0, 0).asked(0, "choices", 0, 0, 0, 0, 0)
+            .refused(Edge.INDEX, "choices", 0, 0, 0, 0, 1);
         r.refused(Edge.INDEX, "choices", 0, 0, 0, 1, 0).refused(Edge.INDEX, "choices", 0, 0, 0, -1, 0);
-        r.due(5, "sheet", 0, 0, 5).asked(0, "choices", 0, 0, 0, 0, 0).asked(0, "choices", 0, 0, 0, 5, 0).refused(Edge.INDEX, "choices", 0, 0, 0, 6, 0);
+        r.due(5, "sheet", 0, 0, 5).asked(0, "choices", 0, 0, 0, 0, 0).asked(0, "choices", 0, 0, 0, 5, 0)
+            .refused(Edge.INDEX, "choices", 0, 0, 0, 6, 0);
     }
 
     private static void choicesNot() {
         Run r = ready(c.edge(43, "NOT: one is no choice"));
-        r.due(22, "sheet", 0, 2, 22).due(1, "item", 0, 2, 0, -1).due(1, "item", 0, 2, 1, 4).due(1, "item", 0, 2, 2, 1).due(1, "item", 0, 2, 21, 5);
-        r.due(0, "choose", 0, 0, 3).refused(Edge.NOT, "choices", 0, 0, 2, 0, 1).refused(Edge.NOT, "choices", 0, 0, 2, 0, 20).refused(Edge.NOT, "choices", 0, 0, 2, 2, 20);
-        r.refused(Edge.NOT, "choices", 0, 0, 2, 21, 1).due(20, "choices", 0, 0, 2, 1, 20).due(4, "choose", 0, 0, 0).due(1, "choose", 0, 1, 0);
-        r.due(1, "item", 0, 2, 1, Edge.MIN).refused(Edge.NOT, "choices", 0, 0, 2, 1, 1).due(1, "item", 0, 2, 1, Edge.MAX).refused(Edge.NOT, "choices", 0, 0, 2, 1, 1);
+        r.due(22, "sheet", 0, 2, 22).due(1, "item", 0, 2, 0, -1).due(1, "item", 0, 2, 1, 4).due(1, "item", 0, 2, 2, 1)
+            .due(1, "item", 0, 2, 21, 5);
+        r.due(0, "choose", 0, 0, 3).refused(Edge.NOT, "choices", 0, 0, 2, 0, 1)
+            .refused(Edge.NOT, "choices", 0, 0, 2, 0, 20).refused(Edge.NOT, "choices", 0, 0, 2, 2, 20);
+        r.refused(Edge.NOT, "choices", 0, 0, 2, 21, 1).due(20, "choices", 0, 0, 2, 1, 20).due(4, "choose", 0, 0, 0)
+            .due(1, "choose", 0, 1, 0);
+        r.due(1, "item", 0, 2, 1, Edge.MIN).refused(Edge.NOT, "choices", 0, 0, 2, 1, 1)
+            .due(1, "item", 0, 2, 1, Edge.MAX).refused(Edge.NOT, "choices", 0, 0, 2, 1, 1);
         r.due(1, "item", 0, 2, 1, 0).due(1, "choices", 0, 0, 2, 1, 1).due(0, "choose", 0, 0, 0);
     }
 
@@ -232,8 +259,11 @@ public final class EdgesSheetsTest {
     private static void choicesOrder() {
         Run r = ready(c.edge(43, "Refusals are answers, of several the first that a call names"));
         r.due(2, "sheet", 0, 2, 2).due(1, "item", 0, 2, 0, 9);
-        r.refused(Edge.BAD, "choices", 1, 1, 0, -1, 21).refused(Edge.BAD, "choices", 2, 4, 0, 0, 1).refused(Edge.BAD, "choices", 3, 0, 2, 0, 1);
-        r.refused(Edge.CAST, "choices", 1, 1, 0, -1, 20).refused(Edge.NULL, "choices", 0, 1, 0, -1, 20).refused(Edge.CAST, "choices", 0, 0, 0, -1, 20);
-        r.refused(Edge.INDEX, "choices", 0, 0, 2, 0, 3).refused(Edge.NOT, "choices", 0, 0, 2, 0, 2).due(1, "choices", 0, 0, 2, 1, 1);
+        r.refused(Edge.BAD, "choices", 1, 1, 0, -1, 21).refused(Edge.BAD, "choices", 2, 4, 0, 0, 1)
+            .refused(Edge.BAD, "choices", 3, 0, 2, 0, 1);
+        r.refused(Edge.CAST, "choices", 1, 1, 0, -1, 20).refused(Edge.NULL, "choices", 0, 1, 0, -1, 20)
+            .refused(Edge.CAST, "choices", 0, 0, 0, -1, 20);
+        r.refused(Edge.INDEX, "choices", 0, 0, 2, 0, 3).refused(Edge.NOT, "choices", 0, 0, 2, 0, 2)
+            .due(1, "choices", 0, 0, 2, 1, 1);
     }
 }

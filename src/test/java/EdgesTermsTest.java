@@ -96,18 +96,21 @@ public final class EdgesTermsTest {
         r = c.edge(14, "DAYS are 0 .. 3999.");
         r.school(1, "a=1/50").due(0, "send", 0, 0, 0).goes(1, 0, 3999, "answer", 0, 0).due(4002, "answer", 0, 3999);
         r = c.edge(15, "DAYS are 0 .. 3999.");
-        r.school(1, "a=1/50").tutors(1, 9).goes(2, 0, 3999, "give", r.answered(0, 0, 0), 0, 0).due(1, "give", 0, 0, 3999);
+        r.school(1, "a=1/50").tutors(1, 9).goes(2, 0, 3999, "give", r.answered(0, 0, 0), 0, 0)
+            .due(1, "give", 0, 0, 3999);
         r = c.edge(16, "DAYS are 0 .. 3999.");
         r.school(1, "a=1/50").tutors(1, 9).goes(4, 0, 3999, "mark", r.given(0, 0, 0, 0), 1, 1, 1, 0);
         r.due(1, "mark", 0, 1, 1, 1, 3999).asked(4002, "marks", 0, 3);
         r = c.edge(17, "DAYS are 0 .. 3999.");
-        r.school(1, "a=1/50").tutors(1, 9).goes(1, 0, 3999, "again", r.given(0, 0, 0, 0), 0).due(4002, "again", 0, 3999);
+        r.school(1, "a=1/50").tutors(1, 9).goes(1, 0, 3999, "again", r.given(0, 0, 0, 0), 0)
+            .due(4002, "again", 0, 3999);
     }
 
     private static void daysOfShares() {
         Run r = c.edge(27, "DAYS are 0 .. 3999.");
         r.school(1, "a=1/50").tutors(1, 9).answered(0, 0, 0);
-        r.goes(0, 0, 3999, "share", 0, 0).goes(0, 0, 3999, "share", 0, 1).asked(1, "share", 3999, 0).asked(0, "share", 0, 0);
+        r.goes(0, 0, 3999, "share", 0, 0).goes(0, 0, 3999, "share", 0, 1).asked(1, "share", 3999, 0)
+            .asked(0, "share", 0, 0);
         r = c.edge(28, "DAYS are 0 .. 3999.");
         r.school(1, "a=1/50").tutors(1, 9).answered(0, 0, 0);
         r.goes(0, 0, 3999, "shareOf", 0, 0).asked(0, "shareOf", 3999, 0).asked(Edge.NONE, "shareOf", 0, 0);

@@ -12,6 +12,7 @@ public final class EdgesTextsTest {
         editionTape();
         editionBadTape();
         editionFull();
+        editionBehindFaults();
         editionOrder();
         clauses();
         letters();
@@ -133,6 +134,23 @@ public final class EdgesTextsTest {
         }
         r.same(Edge.FULL, "b=9/99", "edition", 2, 3999);
         r.edition(0, 1, 0, "c=3/50");
+    }
+
+    private static void editionBehindFaults() {
+        Run r = c.edge(3, "What is refused changes nothing.");
+        r.edition(-33, 0, 0, "a=9/90:b&a;b=").edition(0, 0, 0, "a=1/50;b=2/50").due(0, "pupil", 0, 0, 0);
+        r.asked(0, "lesson", 0, 0, 0, 2).asked(3, "may", 0, 0);
+        r.edition(-39, 1, 0, "c=1/50;a=3/3:c|c;b=").edition(0, 1, 0, "a=4/40").due(1, "pupil", 0, 1, 0);
+        r.asked(1, "told", 1, 0, 2).asked(Edge.BAD, "lesson", 1, 0, 2, 0).asked(1, "may", 1, 0)
+            .asked(0, "lesson", 1, 0, 0, 2);
+        r = c.edge(3, "What is refused changes nothing.");
+        for (int i = 0; i < 5; i++) {
+            r.edition(-139, 0, 0, "a=1/50:a" + "|a".repeat(55) + "|~");
+        }
+        r.edition(0, 0, 0, "a=1/50:!a;b=2/50:" + "a&".repeat(50) + "!b").due(0, "pupil", 0, 0, 0).asked(1, "may", 0, 0)
+            .tutors(1, 9);
+        r.marked(0, 0, 0, 0, 50);
+        r.asked(2, "may", 0, 0);
     }
 
     private static void editionOrder() {

@@ -5,6 +5,7 @@ public final class EdgesTutorsTest {
     public static void main(String[] args) {
         tutor();
         tutorFull();
+        tutorsAsTheyCome();
         kin();
         load();
         waitBad();
@@ -22,12 +23,14 @@ public final class EdgesTutorsTest {
         shareLoad();
         shareMost();
         shareLeast();
+        shareLeastBetweenLoads();
         shareFirst();
         shareNotGivenLast();
         shareOf();
         offsetBad();
         offsetNone();
         offsetOrder();
+        offsetOfEachPair();
         offsetLeastGreatest();
         c.end();
     }
@@ -55,14 +58,30 @@ public final class EdgesTutorsTest {
             r.asked(i, "count", 1).due(i, "tutor", 15, i + 1);
         }
         r.refused(Edge.FULL, "tutor", 15, 9).refused(Edge.FULL, "tutor", 0, 1).asked(6, "count", 1);
-        r.refused(Edge.BAD, "tutor", 16, 9).refused(Edge.BAD, "tutor", -1, 9).refused(Edge.BAD, "tutor", 15, 0).refused(Edge.BAD, "tutor", 15, 10);
+        r.refused(Edge.BAD, "tutor", 16, 9).refused(Edge.BAD, "tutor", -1, 9).refused(Edge.BAD, "tutor", 15, 0)
+            .refused(Edge.BAD, "tutor", 15, 10);
         r.goes(0, 0, 5, "load", 0);
+    }
+
+    private static void tutorsAsTheyCome() {
+        Run r = c.edge(22, "TUTORS 0 .. 5, as they come");
+        r.school(1, "a=0/50;b=39/50");
+        for (int i = 0; i < 6; i++) {
+            r.asked(Edge.BAD, "load", i).due(i, "tutor", i % 2 == 0 ? 1 : 8, i + 1).asked(0, "load", i);
+        }
+        for (int i = 0; i < 6; i++) {
+            int thing = r.answered(0, i % 2, 0);
+            r.refused(Edge.NOT, "give", thing, (i + 1) % 6, 6).due(1, "give", thing, i, 6).asked(i, "thing", thing, 6);
+        }
+        r.asked(Edge.BAD, "load", 6);
     }
 
     private static void kin() {
         Run r = c.edge(23, "KIN (bits of 12): what they were. BAD.");
-        r.refused(Edge.BAD, "kin", 0, 0).school(12, "a=1/50").tutors(6, 9).goes(0, 0, 5, "kin", 0, 1).goes(1, 0, 4095, "kin", 5, 0);
-        r.due(0, "kin", 5, 4095).due(4095, "kin", 5, 0).due(0, "kin", 5, 2048).due(0, "kin", 0, 1).due(2048, "kin", 5, 0);
+        r.refused(Edge.BAD, "kin", 0, 0).school(12, "a=1/50").tutors(6, 9).goes(0, 0, 5, "kin", 0, 1)
+            .goes(1, 0, 4095, "kin", 5, 0);
+        r.due(0, "kin", 5, 4095).due(4095, "kin", 5, 0).due(0, "kin", 5, 2048).due(0, "kin", 0, 1)
+            .due(2048, "kin", 5, 0);
         r = c.edge(23, "(a number is not as told, or names nothing)");
         r.tutors(1, 9).goes(0, 0, 0, "kin", 0, 7).due(0, "kin", 0, 4095);
     }
@@ -75,7 +94,8 @@ public final class EdgesTutorsTest {
         for (int i = 0; i < 12; i++) {
             r.asked(i, "load", 0).given(0, 0, 0, 0);
         }
-        r.asked(12, "load", 0).asked(0, "load", 1).refused(Edge.FULL, "give", r.answered(0, 0, 0), 0, 6).asked(12, "load", 0);
+        r.asked(12, "load", 0).asked(0, "load", 1).refused(Edge.FULL, "give", r.answered(0, 0, 0), 0, 6)
+            .asked(12, "load", 0);
         for (int i = 0; i < 12; i++) {
             if (i % 2 == 0) {
                 r.due(i, "mark", i, i, i, i, 6);
@@ -140,9 +160,12 @@ public final class EdgesTutorsTest {
 
     private static void tookFirstSent() {
         Run r = ready(c.edge(26, "What came: DAYS from when a MARKED THING was first sent till the pupil knows."));
-        r.due(1, "post", 0, 1, 0).due(0, "send", 0, 0, 0).due(2, "answer", 0, 1).due(1, "give", 0, 0, 2).due(2, "mark", 0, 2, 2, 2, 2);
-        r.asked(3, "took", 0).due(1, "send", 0, 0, 10).due(21, "answer", 1, 20).due(1, "give", 1, 0, 30).due(32, "again", 1, 31);
-        r.due(41, "answer", 1, 40).due(1, "give", 1, 1, 41).due(2, "mark", 1, 2, 2, 2, 3999).asked(4000 - 10, "took", 1);
+        r.due(1, "post", 0, 1, 0).due(0, "send", 0, 0, 0).due(2, "answer", 0, 1).due(1, "give", 0, 0, 2)
+            .due(2, "mark", 0, 2, 2, 2, 2);
+        r.asked(3, "took", 0).due(1, "send", 0, 0, 10).due(21, "answer", 1, 20).due(1, "give", 1, 0, 30)
+            .due(32, "again", 1, 31);
+        r.due(41, "answer", 1, 40).due(1, "give", 1, 1, 41).due(2, "mark", 1, 2, 2, 2, 3999)
+            .asked(4000 - 10, "took", 1);
     }
 
     // ---- promises 27, 28
@@ -157,8 +180,10 @@ public final class EdgesTutorsTest {
 
     private static void shareNothing() {
         Run r = c.edge(27, "SHARE: ANSWERS that have come by a DAY and are not GIVEN");
-        r.asked(0, "share", 0, 0).asked(0, "share", 3999, 1).school(1, "a=1/50").tutors(1, 9).asked(0, "share", 3999, 0);
-        r.due(0, "send", 0, 0, 0).asked(0, "share", 3999, 0).asked(0, "share", 3999, 1).asked(Edge.NONE, "shareOf", 3999, 0);
+        r.asked(0, "share", 0, 0).asked(0, "share", 3999, 1).school(1, "a=1/50").tutors(1, 9)
+            .asked(0, "share", 3999, 0);
+        r.due(0, "send", 0, 0, 0).asked(0, "share", 3999, 0).asked(0, "share", 3999, 1)
+            .asked(Edge.NONE, "shareOf", 3999, 0);
         r = c.edge(27, "SHARE: ANSWERS that have come by a DAY and are not GIVEN");
         r.school(1, "a=1/50").answered(0, 0, 0);
         r.asked(0, "share", 3999, 0).asked(0, "share", 3999, 1).asked(Edge.NONE, "shareOf", 3999, 0);
@@ -168,9 +193,12 @@ public final class EdgesTutorsTest {
         Run r = ready(c.edge(27, "ANSWERS that have come by a DAY and are not GIVEN"));
         r.answered(0, 0, 10);
         r.answered(0, 0, 11);
-        r.asked(0, "share", 15, 0).asked(1, "share", 16, 0).asked(2, "share", 17, 0).asked(2, "share", 3999, 0).asked(0, "share", 0, 0);
-        r.asked(Edge.NONE, "shareOf", 15, 0).asked(0, "shareOf", 16, 0).asked(Edge.NONE, "shareOf", 16, 1).asked(1, "shareOf", 17, 1);
-        r.due(2, "send", 0, 0, 10).due(4000, "answer", 2, 3997).asked(2, "share", 3999, 0).asked(Edge.NONE, "shareOf", 3999, 2);
+        r.asked(0, "share", 15, 0).asked(1, "share", 16, 0).asked(2, "share", 17, 0).asked(2, "share", 3999, 0)
+            .asked(0, "share", 0, 0);
+        r.asked(Edge.NONE, "shareOf", 15, 0).asked(0, "shareOf", 16, 0).asked(Edge.NONE, "shareOf", 16, 1)
+            .asked(1, "shareOf", 17, 1);
+        r.due(2, "send", 0, 0, 10).due(4000, "answer", 2, 3997).asked(2, "share", 3999, 0)
+            .asked(Edge.NONE, "shareOf", 3999, 2);
     }
 
     private static void shareSix() {
@@ -181,7 +209,8 @@ public final class EdgesTutorsTest {
         }
         r.asked(4, "share", 6, 0).answered(0, 0, 0);
         r.asked(5, "share", 6, 0).asked(0, "shareOf", 6, 5).answered(0, 0, 0);
-        r.asked(5, "share", 6, 0).asked(5, "share", 6, 1).asked(Edge.NONE, "shareOf", 6, 6).asked(Edge.NONE, "shareOf", 6, 2);
+        r.asked(5, "share", 6, 0).asked(5, "share", 6, 1).asked(Edge.NONE, "shareOf", 6, 6)
+            .asked(Edge.NONE, "shareOf", 6, 2);
         r.due(1, "give", 4, 0, 6).asked(5, "share", 6, 0).asked(0, "shareOf", 6, 6).asked(Edge.NONE, "shareOf", 6, 4);
         r.due(1, "tutor", 8, 9).asked(6, "share", 6, 0).asked(1, "shareOf", 6, 2).asked(0, "shareOf", 6, 6);
     }
@@ -197,7 +226,8 @@ public final class EdgesTutorsTest {
         for (int i = 0; i < 6; i++) {
             r.asked(want[i], "shareOf", 3999, i);
         }
-        r.asked(1, "share", 3999, 0).due(12, "answer", 4, 9).asked(1, "share", 11, 0).asked(2, "share", 12, 0).asked(0, "shareOf", 12, 2).asked(1, "shareOf", 12, 4);
+        r.asked(1, "share", 3999, 0).due(12, "answer", 4, 9).asked(1, "share", 11, 0).asked(2, "share", 12, 0)
+            .asked(0, "shareOf", 12, 2).asked(1, "shareOf", 12, 4);
     }
 
     private static void shareTeaches() {
@@ -206,7 +236,8 @@ public final class EdgesTutorsTest {
         r.answered(0, 0, 0);
         r.answered(1, 1, 0);
         r.asked(2, "share", 6, 0).asked(0, "shareOf", 6, 0).asked(1, "shareOf", 6, 1);
-        r.due(0, "kin", 0, 2).asked(2, "share", 6, 0).due(2, "kin", 0, 1).asked(1, "share", 6, 0).asked(Edge.NONE, "shareOf", 6, 0);
+        r.due(0, "kin", 0, 2).asked(2, "share", 6, 0).due(2, "kin", 0, 1).asked(1, "share", 6, 0)
+            .asked(Edge.NONE, "shareOf", 6, 0);
         r.due(0, "kin", 1, 2).asked(0, "share", 6, 0).asked(0, "share", 6, 1).asked(Edge.NONE, "shareOf", 6, 1);
     }
 
@@ -219,7 +250,8 @@ public final class EdgesTutorsTest {
         for (int i = 0; i < 3; i++) {
             r.answered(0, 0, 0);
         }
-        r.asked(2, "share", 6, 0).asked(23, "share", 6, 1).asked(0, "shareOf", 6, 10).asked(0, "shareOf", 6, 11).asked(Edge.NONE, "shareOf", 6, 12);
+        r.asked(2, "share", 6, 0).asked(23, "share", 6, 1).asked(0, "shareOf", 6, 10).asked(0, "shareOf", 6, 11)
+            .asked(Edge.NONE, "shareOf", 6, 12);
         r.due(11, "give", 12, 0, 6).asked(1, "share", 6, 0).asked(12, "share", 6, 1).asked(Edge.NONE, "shareOf", 6, 11);
         r.due(12, "give", 11, 0, 6).asked(0, "share", 6, 0).asked(0, "share", 6, 1).asked(Edge.NONE, "shareOf", 6, 10);
     }
@@ -241,9 +273,26 @@ public final class EdgesTutorsTest {
         r.school(1, "a=1/50").due(0, "tutor", 15, 1).due(1, "tutor", 15, 2).answered(0, 0, 0);
         r.asked(1, "share", 6, 1).asked(0, "shareOf", 6, 0).answered(0, 0, 0);
         r.asked(2, "share", 6, 1).asked(0, "shareOf", 6, 0).asked(1, "shareOf", 6, 1).answered(0, 0, 0);
-        r.asked(3, "share", 6, 1).asked(0, "shareOf", 6, 0).asked(1, "shareOf", 6, 1).asked(1, "shareOf", 6, 2).answered(0, 0, 0);
-        r.asked(5, "share", 6, 1).asked(0, "shareOf", 6, 0).asked(0, "shareOf", 6, 1).asked(1, "shareOf", 6, 2).asked(1, "shareOf", 6, 3);
-        r.due(1, "give", 0, 0, 6).asked(4, "share", 6, 1).asked(0, "shareOf", 6, 1).asked(1, "shareOf", 6, 2).asked(1, "shareOf", 6, 3);
+        r.asked(3, "share", 6, 1).asked(0, "shareOf", 6, 0).asked(1, "shareOf", 6, 1).asked(1, "shareOf", 6, 2)
+            .answered(0, 0, 0);
+        r.asked(5, "share", 6, 1).asked(0, "shareOf", 6, 0).asked(0, "shareOf", 6, 1).asked(1, "shareOf", 6, 2)
+            .asked(1, "shareOf", 6, 3);
+        r.due(1, "give", 0, 0, 6).asked(4, "share", 6, 1).asked(0, "shareOf", 6, 1).asked(1, "shareOf", 6, 2)
+            .asked(1, "shareOf", 6, 3);
+    }
+
+    private static void shareLeastBetweenLoads() {
+        Run r = c.edge(27, "of such that the sum over them of the DAYS till each is marked");
+        r.school(1, "a=1/50").due(0, "tutor", 15, 1).due(1, "tutor", 15, 3).due(2, "tutor", 15, 1);
+        for (int i = 0; i < 11; i++) {
+            r.given(0, 0, 0, i < 3 ? 0 : 2);
+        }
+        for (int i = 11; i < 14; i++) {
+            r.answered(0, 0, 0);
+        }
+        r.asked(3, "share", 6, 0).asked(3, "share", 6, 1);
+        r.asked(1, "shareOf", 6, 11).asked(1, "shareOf", 6, 12).asked(1, "shareOf", 6, 13).answered(0, 0, 0);
+        r.asked(5, "share", 6, 1).asked(1, "shareOf", 6, 11).asked(1, "shareOf", 6, 14);
     }
 
     private static void shareFirst() {
@@ -256,7 +305,8 @@ public final class EdgesTutorsTest {
         for (int i = 0; i < 6; i++) {
             r.asked(want[i], "shareOf", 6, i);
         }
-        r.due(0, "kin", 0, 1).asked(1, "shareOf", 6, 0).asked(1, "shareOf", 6, 2).asked(2, "shareOf", 6, 3).asked(12, "share", 6, 1);
+        r.due(0, "kin", 0, 1).asked(1, "shareOf", 6, 0).asked(1, "shareOf", 6, 2).asked(2, "shareOf", 6, 3)
+            .asked(12, "share", 6, 1);
     }
 
     private static void shareNotGivenLast() {
@@ -284,7 +334,8 @@ public final class EdgesTutorsTest {
 
     private static void offsetBad() {
         Run r = c.edge(29, "BAD less 1000 (-1001): also one");
-        r.asked(-1001, "offset", 0, 1, 0).school(1, "a=1/50").tutors(1, 9).asked(-1001, "offset", 0, 1, 0).asked(-1001, "offset", 0, 0, 0);
+        r.asked(-1001, "offset", 0, 1, 0).school(1, "a=1/50").tutors(1, 9).asked(-1001, "offset", 0, 1, 0)
+            .asked(-1001, "offset", 0, 0, 0);
         r.tutors(5, 9).goes(0, 0, 4, "offset", 0, 5, 0).goes(1, 1, 5, "offset", 0, 0, 0);
         r = c.edge(29, "BAD less 1000 (-1001): also one");
         r.school(1, "a=1/50").tutors(6, 9).goes(2, 0, 3, "offset", 0, 5, 0);
@@ -293,7 +344,8 @@ public final class EdgesTutorsTest {
                 r.asked(-1001, "offset", i, i, what);
             }
         }
-        r.asked(-1001, "offset", 0, 6, 0).asked(-1001, "offset", 6, 0, 0).asked(-1001, "offset", -1, 0, 0).asked(-1001, "offset", 0, -1, 0);
+        r.asked(-1001, "offset", 0, 6, 0).asked(-1001, "offset", 6, 0, 0).asked(-1001, "offset", -1, 0, 0)
+            .asked(-1001, "offset", 0, -1, 0);
     }
 
     private static void offsetNone() {
@@ -303,7 +355,8 @@ public final class EdgesTutorsTest {
         for (int what = 0; what < 4; what++) {
             r.asked(what == 0 ? 0 : -1004, "offset", 0, 1, what).asked(what == 0 ? 0 : -1004, "offset", 1, 0, what);
         }
-        r.due(40, "second", 0, 1, 40, 40, 40).asked(1, "offset", 0, 1, 0).asked(-1004, "offset", 0, 2, 3).asked(0, "offset", 0, 2, 0);
+        r.due(40, "second", 0, 1, 40, 40, 40).asked(1, "offset", 0, 1, 0).asked(-1004, "offset", 0, 2, 3)
+            .asked(0, "offset", 0, 2, 0);
         for (int what = 1; what < 4; what++) {
             r.asked(0, "offset", 0, 1, what).asked(0, "offset", 1, 0, what).asked(-1004, "offset", 1, 2, what);
         }
@@ -322,14 +375,32 @@ public final class EdgesTutorsTest {
         }
     }
 
+    private static void offsetOfEachPair() {
+        Run r = c.edge(29, "marks of the one less those of the other for all that both marked");
+        r.school(1, "a=1/100").tutors(3, 9);
+        int[][] pairs = {{0, 1, 1}, {1, 0, 2}, {0, 2, 4}, {2, 0, 8}, {1, 2, 16}, {2, 1, 32}};
+        for (int[] p : pairs) {
+            r.due(50 - p[2], "second", r.marked(0, 0, 0, p[0], 50), p[1], 50 - p[2], 50 - p[2], 50 - p[2]);
+        }
+        for (int[] p : pairs) {
+            int there = p[2];
+            int back = there == 1 || there == 4 || there == 16 ? -2 * there : -there / 2;
+            r.asked(2, "offset", p[0], p[1], 0).asked((there + back) / 2, "offset", p[0], p[1], 1);
+            r.asked(back, "offset", p[0], p[1], 2).asked(there, "offset", p[0], p[1], 3);
+        }
+    }
+
     private static void offsetLeastGreatest() {
         Run r = c.edge(29, "0 by how many, 1 the mean, 2 the least, 3 the greatest");
         r.school(1, "a=1/100").tutors(2, 9);
         r.due(0, "second", r.marked(0, 0, 0, 0, 99), 1, 0, 0, 0);
-        r.asked(99, "offset", 0, 1, 2).asked(99, "offset", 0, 1, 3).asked(-99, "offset", 1, 0, 2).asked(-99, "offset", 1, 0, 3);
+        r.asked(99, "offset", 0, 1, 2).asked(99, "offset", 0, 1, 3).asked(-99, "offset", 1, 0, 2)
+            .asked(-99, "offset", 1, 0, 3);
         r.due(100, "second", r.marked(0, 0, 0, 0, 0), 1, 100, 100, 100);
-        r.asked(-100, "offset", 0, 1, 2).asked(99, "offset", 0, 1, 3).asked(100, "offset", 1, 0, 3).asked(0, "offset", 0, 1, 1);
+        r.asked(-100, "offset", 0, 1, 2).asked(99, "offset", 0, 1, 3).asked(100, "offset", 1, 0, 3)
+            .asked(0, "offset", 0, 1, 1);
         r.due(0, "second", r.marked(0, 0, 0, 0, 100), 1, 0, 0, 0);
-        r.asked(100, "offset", 0, 1, 3).asked(-100, "offset", 0, 1, 2).asked(3, "offset", 0, 1, 0).asked(33, "offset", 0, 1, 1);
+        r.asked(100, "offset", 0, 1, 3).asked(-100, "offset", 0, 1, 2).asked(3, "offset", 0, 1, 0)
+            .asked(33, "offset", 0, 1, 1);
     }
 }
