@@ -225,7 +225,7 @@ public final class EdgesMarksTest {
     }
 
     private static void againTwice() {
-        Run r = ready(c.edge(17, "AGAIN (to be ANSWERED once more; at most twice for a THING)"));
+        Run r = ready(c.edge(17, "or AGAIN (to be ANSWERED once more; at most twice for a THING)"));
         r.given(0, 0, 0, 0);
         r.asked(0, "thing", 0, 7).due(9, "again", 0, 6).asked(1, "thing", 0, 7).due(12, "answer", 0, 9)
             .due(1, "give", 0, 0, 12);

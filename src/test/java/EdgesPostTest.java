@@ -63,7 +63,7 @@ public final class EdgesPostTest {
 
     private static void postLoses() {
         for (int each = 2; each <= 9; each++) {
-            Run r = ready(c.edge(12, "loses each n-th thing that is sent to it, or from it, since that was told"));
+            Run r = ready(c.edge(12, "and loses each n-th thing that is sent to it, or from it, since that was told"));
             r.due(1, "post", 0, 3, each);
             for (int i = 1; i <= 2 * each + 1; i++) {
                 r.due(i - 1, "send", 0, 0, 0);
@@ -71,7 +71,7 @@ public final class EdgesPostTest {
                 r.is("day of number " + i + " of each " + each, r.does("thing", i - 1, 5), i % each == 0 ? Edge.NONE : 3);
             }
         }
-        Run r = ready(c.edge(12, "loses each n-th thing that is sent to it, or from it, since that was told"));
+        Run r = ready(c.edge(12, "and loses each n-th thing that is sent to it, or from it, since that was told"));
         r.due(1, "post", 0, 3, 4).due(0, "send", 0, 0, 0).due(6, "answer", 0, 3).due(1, "give", 0, 0, 6);
         r.due(1, "send", 1, 0, 0).due(6, "answer", 1, 3);
         r.due(9, "again", 0, 6).due(Edge.NONE, "answer", 0, 9).asked(4, "thing", 0, 0);

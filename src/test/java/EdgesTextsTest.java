@@ -240,7 +240,7 @@ public final class EdgesTextsTest {
     }
 
     private static void casesAndClaims() {
-        Run r = c.edge(3, "perhaps : what it LEANS on: CASES with | between; CASE: CLAIMS with & between");
+        Run r = c.edge(3, "and perhaps : what it LEANS on: CASES with | between; CASE: CLAIMS with & between");
         whole(r, 1, "a=1/5:a");
         whole(r, 1, "a=1/5:a|a&a|a");
         fault(r, 6, "a=1/5:");

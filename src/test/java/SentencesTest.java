@@ -2,6 +2,7 @@ import java.io.IOException;
 import java.nio.file.Files;
 import java.nio.file.Path;
 import java.util.ArrayList;
+import java.util.BitSet;
 import java.util.List;
 import java.util.Map;
 import java.util.Set;
@@ -11,8 +12,9 @@ import java.util.regex.Matcher;
 import java.util.regex.Pattern;
 
 /**
- * Whether the tests of the boundary cases (Edges*Test) cover the document: each sentence that they name stands in it, and
- * each promise, each refusal of a promise and each range of numbers stands in a sentence that they name.
+ * Whether the tests of the document's sentences (Edges*Test) cover it: each sentence that they name stands in it; each
+ * promise, each refusal of a promise and each range of numbers stands in a sentence that they name; and so does each word
+ * of the terms and of the promises.
  */
 public final class SentencesTest {
     private static final Path DOCUMENT = Path.of("../shared/DOC.md");
@@ -21,6 +23,10 @@ public final class SentencesTest {
     private static final Pattern SECTION = Pattern.compile("(?m)^## (.*)$");
     private static final Pattern REFUSAL = Pattern.compile("\\b(BAD|NOT|FULL|NONE|NULL|CAST|INDEX|SIZE|FAULT)\\b");
     private static final Pattern RANGE = Pattern.compile("\\w+ \\.\\. \\w+");
+    private static final Pattern WORD = Pattern.compile("[A-Za-z]+");
+    /** What says nothing of its own: how a text is set, the headings of the face, and a promise's call. */
+    private static final Pattern SET = Pattern.compile("```text|```|Ahead of the calls .*? the interface says: ---- \\d (?:(?!sheets)[a-z, ]+\\.)?"
+        + "|^.*?`(?:int \\w+|LetterSchool)\\([^)]*\\)`:");
     private static final Check c = new Check();
 
     private static final Map<String, String> sections = new TreeMap<>();
@@ -36,6 +42,7 @@ public final class SentencesTest {
         namedStandInTheDocument();
         refusalsAreNamed();
         rangesAreNamed();
+        wordsAreNamed();
         c.end();
     }
 
@@ -112,5 +119,26 @@ public final class SentencesTest {
                 c.holds("a test is about " + range, named.values().stream().flatMap(List::stream).anyMatch(s -> s.contains(range)));
             }
         });
+    }
+
+    private static void wordsAreNamed() {
+        List<String> all = named.values().stream().flatMap(List::stream).toList();
+        wordsAreNamed("the terms", sections.get("Terms"), all);
+        for (int number = 1; number <= 43; number++) {
+            wordsAreNamed("promise " + number, promise(number), named.getOrDefault(number, List.of()));
+        }
+    }
+
+    private static void wordsAreNamed(String where, String text, List<String> sentences) {
+        c.about(where);
+        BitSet seen = new BitSet();
+        SET.matcher(text).results().forEach(r -> seen.set(r.start(), r.end()));
+        for (String sentence : sentences) {
+            for (int at = text.indexOf(sentence); at >= 0; at = text.indexOf(sentence, at + 1)) {
+                seen.set(at, at + sentence.length());
+            }
+        }
+        WORD.matcher(text).results().filter(r -> seen.get(r.start(), r.end()).cardinality() < r.end() - r.start())
+            .forEach(r -> c.holds("a test names '" + text.substring(r.start(), Math.min(text.length(), r.start() + 60)) + "'", false));
     }
 }
